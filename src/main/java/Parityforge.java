@@ -540,17 +540,22 @@ public final class Parityforge {
             return length == 0 ? 0 : set >> 1 | (set >> loop & 1) << length - 1;
         }
 
+        /** Each round tells one place more; begun with all places, it tells what may also never come. */
         private int until(int stay, int goal, int start) {
-            int set = start;
-            for (int i = 0; i <= length; i++) {
+            int before = start;
+            int set = goal | stay & ahead(start);
+            for (int i = 0; i < length && set != before; i++) {
+                before = set;
                 set = goal | stay & ahead(set);
             }
             return set;
         }
 
         private int release(int freed, int kept, int start) {
-            int set = start;
-            for (int i = 0; i <= length; i++) {
+            int before = start;
+            int set = kept & (freed | ahead(start));
+            for (int i = 0; i < length && set != before; i++) {
+                before = set;
                 set = kept & (freed | ahead(set));
             }
             return set;
@@ -626,21 +631,16 @@ public final class Parityforge {
                     kept++;
                 }
             }
-            count = kept;
-            insert(from, edge);
-        }
-
-        private void insert(int from, int edge) {
-            if (count >= edges.length) {
+            if (kept >= edges.length) {
                 edges = Arrays.copyOf(edges, 2 * edges.length);
             }
-            int at = count;
+            int at = kept;
             while (at > from && edges[at - 1] > edge) {
                 edges[at] = edges[at - 1];
                 at--;
             }
             edges[at] = edge;
-            count++;
+            count = kept + 1;
         }
 
         boolean sameRows(int one, int other, int many) {
@@ -908,7 +908,7 @@ public final class Parityforge {
                     }
                     break;
                 case AND:
-                    addBoth(row, first, second, 0);
+                    addBoth(row, first, second);
                     break;
                 case OR:
                     addWith(row, first, 0);
@@ -928,7 +928,7 @@ public final class Parityforge {
                 case RELEASE: case FREED:
                     addWith(row, second, self);
                     if (left[element] != NONE) {
-                        addBoth(row, first, second, 0);
+                        addBoth(row, first, second);
                     }
                     break;
                 default:
@@ -942,9 +942,9 @@ public final class Parityforge {
             }
         }
 
-        private void addBoth(int row, int one, int other, int more) {
+        private void addBoth(int row, int one, int other) {
             for (int i = 0; i < clausesOf(one); i++) {
-                addWith(row, other, clause(one, i) | more);
+                addWith(row, other, clause(one, i));
             }
         }
 
@@ -1164,7 +1164,7 @@ public final class Parityforge {
                 total += merged.startOf((firstOf[c] + 1) * many) - merged.startOf(firstOf[c] * many);
             }
             int[] start = new int[classes * many + 1];
-            int[] edges = new int[total];
+            int[] edges = new int[Math.max(total, 0)];
             int at = 0;
             for (int c = 0; c < classes; c++) {
                 for (int letter = 0; letter < many; letter++) {
@@ -1596,6 +1596,8 @@ public final class Parityforge {
         boolean known;
         int core;
         boolean coreKnown;
+        boolean checked;
+        boolean rightOnShortWords;
 
         Forge(Formulas formulas, Alphabet alphabet) {
             this.formulas = formulas;
@@ -1612,7 +1614,8 @@ public final class Parityforge {
         int addAssumption(int formula) {
             forget();
             if (assumed < MOST_ASSUMED) {
-                makeBoth(formula);
+                makeAutomaton(formula, PLAIN);
+                makeAutomaton(formula, CONTRARY);
                 assumption[assumed] = formula;
                 assumed++;
             }
@@ -1622,7 +1625,8 @@ public final class Parityforge {
         int addWish(int formula) {
             forget();
             if (wished < MOST_WISHED) {
-                makeBoth(formula);
+                makeAutomaton(formula, PLAIN);
+                makeAutomaton(formula, CONTRARY);
                 wishOf[wished] = formula;
                 wished++;
             }
@@ -1640,6 +1644,7 @@ public final class Parityforge {
         private void forget() {
             known = false;
             coreKnown = false;
+            checked = false;
         }
 
         boolean canHold(int formula, int side) {
@@ -1656,11 +1661,6 @@ public final class Parityforge {
             addPart(formula, PLAIN);
             addPart(without, CONTRARY);
             return product.hasWord(free);
-        }
-
-        private void makeBoth(int formula) {
-            makeAutomaton(formula, PLAIN);
-            makeAutomaton(formula, CONTRARY);
         }
 
         private void makeAutomaton(int formula, int side) {
@@ -1691,7 +1691,8 @@ public final class Parityforge {
             if (known && kind == CONTROLLER) {
                 return CONTROLLER;
             }
-            makeBoth(formula);
+            makeAutomaton(formula, PLAIN);
+            makeAutomaton(formula, CONTRARY);
             assumption[assumed] = formula;
             return judge(assumed + 1);
         }
@@ -1729,7 +1730,8 @@ public final class Parityforge {
                     at--;
                 } else {
                     boolean more = trial.put(at, digit[at]);
-                    boolean broken = more && (environment ? isBeaten(assumptions, wishes) : canFail(assumptions, wishes));
+                    boolean broken = more
+                        && (environment ? isBeaten(assumptions, wishes) : canFail(assumptions, wishes));
                     at = broken ? at : at + 1;
                     if (at >= digits) {
                         return true;
@@ -1811,11 +1813,22 @@ public final class Parityforge {
 
         /** Whether what is found is right for the words of at most 3 letters of which the last 1 or 2 repeat. */
         boolean isRightOnShortWords() {
+            if (!checked) {
+                rightOnShortWords = tryShortWords();
+                checked = true;
+            }
+            return rightOnShortWords;
+        }
+
+        private boolean tryShortWords() {
             for (int many = 1; many <= 3; many++) {
                 for (int repeated = 1; repeated <= 2 && repeated <= many; repeated++) {
                     for (int letters = 0; letters < 1 << 2 * many; letters++) {
-                        if (isOfLetters(letters, many) && !isRightOn(letters, many, many - repeated)) {
-                            return false;
+                        if (isOfLetters(letters, many)) {
+                            found.play(letters, many, many - repeated, shortWord);
+                            if (isWell() != (kind == CONTROLLER)) {
+                                return false;
+                            }
                         }
                     }
                 }
@@ -1830,11 +1843,6 @@ public final class Parityforge {
                 }
             }
             return true;
-        }
-
-        private boolean isRightOn(int letters, int many, int back) {
-            found.play(letters, many, back, shortWord);
-            return isWell() == (kind == CONTROLLER);
         }
 
         private boolean isWell() {
@@ -2029,12 +2037,12 @@ public final class Parityforge {
 
         int greatestForEver(int node) {
             int at = node;
-            for (int i = 0; i < MOST; i++) {
-                at = stepFrom(at);
-            }
             int greatest = 0;
-            for (int i = 0; i < MOST; i++) {
-                greatest = Math.max(greatest, priority[at]);
+            for (int i = 0; i < 2 * MOST && at < count; i++) {
+                // As many steps as there may be nodes lead into the loop, as many more go round it.
+                if (i >= MOST) {
+                    greatest = Math.max(greatest, priority[at]);
+                }
                 at = stepFrom(at);
             }
             return greatest;
