@@ -496,8 +496,10 @@ public final class Parityforge {
             if (!formulas.has(formula)) {
                 return 0;
             }
-            for (long rest = formulas.within[formula]; rest != 0; rest &= rest - 1) {
+            long rest = formulas.within[formula];
+            for (int i = 0; i < Formulas.LARGEST && rest != 0; i++) {
                 int part = Long.bitCount((rest & -rest) - 1);
+                rest &= rest - 1;
                 if (part < Formulas.MOST) {
                     places[part] = placesBy(formulas.kind[part], formulas.first[part], formulas.second[part]);
                 }
@@ -1191,6 +1193,9 @@ public final class Parityforge {
         int states;
         /** How many letters it may be given in each state. */
         int choices;
+        /** How many digits a state has in the rows: an environment's input letter stands ahead of its steps. */
+        int rowLength;
+        /** For each state and letter given, the letter of the word that comes of it, and the next state. */
         final int[] whole = new int[MOST_STEPS];
         final int[] next = new int[MOST_STEPS];
         final int[] input = new int[MOST_STEPS];
@@ -1204,6 +1209,7 @@ public final class Parityforge {
             environment = isEnvironment;
             states = size;
             choices = isEnvironment ? alphabet.outputLetters : alphabet.inputLetters;
+            rowLength = isEnvironment ? choices + 1 : choices;
             for (int i = 0; i < MOST_STEPS; i++) {
                 next[i] = NOWHERE;
             }
@@ -1214,6 +1220,7 @@ public final class Parityforge {
             environment = false;
             states = 1;
             choices = alphabet.letters;
+            rowLength = choices;
             for (int i = 0; i < MOST_STEPS; i++) {
                 whole[i] = i;
                 next[i] = 0;
@@ -1224,52 +1231,58 @@ public final class Parityforge {
             environment = other.environment;
             states = other.states;
             choices = other.choices;
+            rowLength = other.rowLength;
             System.arraycopy(other.whole, 0, whole, 0, MOST_STEPS);
             System.arraycopy(other.next, 0, next, 0, MOST_STEPS);
         }
 
         /** How many numbers its rows have, if a controller's output letter and next state count as one. */
         int digits() {
-            return states * (environment ? choices + 1 : choices);
+            return states * rowLength;
         }
 
         int baseOf(int digit) {
             if (!environment) {
                 return alphabet.outputLetters * states;
             }
-            return digit % (choices + 1) == 0 ? alphabet.inputLetters : states;
+            return columnOf(digit) == 0 ? alphabet.inputLetters : states;
+        }
+
+        private int rowOf(int digit) {
+            return rowLength > 0 ? digit / rowLength : 0;
+        }
+
+        private int columnOf(int digit) {
+            return rowLength > 0 ? digit % rowLength : 0;
         }
 
         /** Puts a digit of the rows, and answers whether it has one step more by it. */
         boolean put(int digit, int value) {
+            int row = rowOf(digit);
+            int column = columnOf(digit);
             if (!environment) {
-                if (states > 0 && choices > 0) {
-                    putStep(digit, digit % choices | value / states << alphabet.inputs, value % states);
-                }
+                int answer = states > 0 ? value / states : 0;
+                putStep(digit, column | answer << alphabet.inputs, value - answer * states);
                 return true;
             }
-            int state = digit / (choices + 1);
-            int letter = digit % (choices + 1) - 1;
-            if (letter < 0) {
-                if (state >= 0 && state < input.length) {
-                    input[state] = value;
+            if (column == 0) {
+                if (row >= 0 && row < input.length) {
+                    input[row] = value;
                 }
                 return false;
             }
-            putStep(state * choices + letter, inputOf(state) | letter << alphabet.inputs, value);
+            int given = row >= 0 && row < input.length ? input[row] : 0;
+            putStep(row * choices + column - 1, given | column - 1 << alphabet.inputs, value);
             return true;
         }
 
         void takeAway(int digit) {
+            int column = columnOf(digit);
             if (!environment) {
                 putStep(digit, 0, NOWHERE);
-            } else if (digit % (choices + 1) > 0) {
-                putStep(digit / (choices + 1) * choices + digit % (choices + 1) - 1, 0, NOWHERE);
+            } else if (column > 0) {
+                putStep(rowOf(digit) * choices + column - 1, 0, NOWHERE);
             }
-        }
-
-        private int inputOf(int state) {
-            return state >= 0 && state < input.length ? input[state] : 0;
         }
 
         private void putStep(int index, int letter, int target) {
