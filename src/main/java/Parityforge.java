@@ -1949,7 +1949,7 @@ public final class Parityforge {
         int wonNodes(int player) {
             if (!solved) {
                 System.arraycopy(edges, 0, ways, 0, MOST);
-                wonByEven = solve(allNodes(), MOST);
+                wonByEven = solve(this, allNodes(), MOST);
                 solved = true;
             }
             return player == 0 ? wonByEven : allNodes() & ~wonByEven;
@@ -1963,36 +1963,38 @@ public final class Parityforge {
             return playerWinning(node) == owner[node];
         }
 
-        /** The nodes of a part of the game that the player 0 wins in it (Zielonka's algorithm). */
-        private int solve(int nodes, int depth) {
+        /** The nodes of a part of a game that the player 0 wins in it (Zielonka's algorithm). */
+        private static int solve(Game game, int nodes, int depth) {
             if (nodes == 0 || depth < 0) {
                 return 0;
             }
-            int greatest = 0;
-            int those = 0;
-            for (int i = 0; i < count; i++) {
-                if ((nodes >> i & 1) != 0) {
-                    if (priority[i] > greatest) {
-                        greatest = priority[i];
-                        those = 0;
-                    }
-                    those |= priority[i] == greatest ? 1 << i : 0;
-                }
-            }
+            int those = game.greatestOf(nodes);
+            int greatest = game.priority[Math.min(lowest(those), MOST - 1)];
             int player = greatest & 1;
-            int rest = nodes & ~drawn(nodes, those, player);
-            int lost = lostBy(player, rest, solve(rest, depth - 1));
+            int rest = nodes & ~game.drawn(nodes, those, player);
+            int even = solve(game, rest, depth - 1);
+            int lost = player == 0 ? rest & ~even : even;
             if (lost == 0) {
                 return player == 0 ? nodes : 0;
             }
-            int taken = drawn(nodes, lost, 1 - player);
-            int left = nodes & ~taken;
-            int even = solve(left, depth - 1);
+            // From here the other player comes to what he has won for sure; the rest is looked at without it.
+            int taken = game.drawn(nodes, lost, 1 - player);
+            even = solve(game, nodes & ~taken, depth - 1);
             return player == 0 ? even : even | taken;
         }
 
-        private static int lostBy(int player, int nodes, int even) {
-            return player == 0 ? nodes & ~even : even;
+        /** The nodes of a set that have its greatest priority. */
+        private int greatestOf(int nodes) {
+            int greatest = 0;
+            int those = 0;
+            for (int i = 0; i < count; i++) {
+                if ((nodes >> i & 1) != 0 && priority[i] >= greatest) {
+                    those = priority[i] > greatest ? 0 : those;
+                    those |= 1 << i;
+                    greatest = priority[i];
+                }
+            }
+            return those;
         }
 
         /** The nodes from which a player can bring the game to a set. */
@@ -2039,7 +2041,7 @@ public final class Parityforge {
             for (int to = 0; to < count; to++) {
                 if ((all >> to & 1) != 0) {
                     ways[node] = 1 << to;
-                    int even = solve(region, MOST);
+                    int even = solve(this, region, MOST);
                     if ((player == 0 ? even : region & ~even) == region) {
                         return to;
                     }
