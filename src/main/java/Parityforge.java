@@ -1352,7 +1352,8 @@ public final class Parityforge {
         static final int BRANCHES = (1 << BRANCH_BITS) - 1;
         static final int GONE = -1;
         static final int MIXER = 0x9E3779B1;
-        static final int MOST_NODES = 1 << 17;
+        /** No search has more: an automaton has at most 27 states, a machine 2, and 2 * 27 to the power of 4 is less. */
+        static final int MOST_NODES = 1 << 21;
         static final int MOST_TURNS = 1 << 30;
         static final int MOST_FLOOR = 1 << 30;
 
