@@ -365,6 +365,8 @@ public final class Parityforge {
 
     /** How many letters there are: the inputs are the low bits of a letter, the outputs the others. */
     private static final class Alphabet {
+        static final int MOST_BITS = 4;
+
         final int inputs;
         final int outputs;
         final int inputLetters;
@@ -573,19 +575,49 @@ public final class Parityforge {
         static final int TARGETS = (1 << TARGET_BITS) - 1;
 
         final int marks;
+        /** How many letters more than those up to a place it must know to read this place. */
+        final int reach;
+        /**
+         * The letter bits that it looks at, four a letter, from the last letter that it must know back. As bits
+         * from the lowest on they make the letters that it reads.
+         */
+        final int[] atoms;
         final int letters;
-        /** The letter bits that the formula looks at: letters that are alike in them have one row. */
-        final int used;
         /** For each state and letter where its edges begin; they end where the next row begins. */
         final int[] start;
         final int[] edges;
 
-        Automaton(int marks, int letters, int used, int[] start, int[] edges) {
+        Automaton(int marks, int reach, int[] atoms, int[] start, int[] edges) {
             this.marks = marks;
-            this.letters = letters;
-            this.used = used;
+            this.reach = reach;
+            this.atoms = atoms;
+            this.letters = 1 << atoms.length;
             this.start = start;
             this.edges = edges;
+        }
+
+        /** How many states it has, each as often as there are last letters that are still looked at. */
+        int cost() {
+            int kept = 0;
+            for (int i = 0; i < atoms.length; i++) {
+                for (int bit = atoms[i] - Alphabet.MOST_BITS; bit >= 0; bit -= Alphabet.MOST_BITS) {
+                    kept |= 1 << bit;
+                }
+            }
+            return (start.length - 1) / letters << Integer.bitCount(kept);
+        }
+
+        boolean isLike(Automaton other) {
+            return marks == other.marks && reach == other.reach && sameRow(atoms, other.atoms) && sameRow(start, other.start)
+                && sameRow(edges, other.edges);
+        }
+
+        private static boolean sameRow(int[] one, int[] other) {
+            boolean same = one.length == other.length;
+            for (int i = 0; i < one.length && same; i++) {
+                same = one[i] == other[i];
+            }
+            return same;
         }
     }
 
@@ -662,16 +694,25 @@ public final class Parityforge {
     }
 
     /**
-     * A formula or its contrary, in plainer words: each part, for itself or for its contrary, is an element
-     * at some number of places ahead; so there are at most 8 elements, and those with lower numbers are
-     * inside those with higher ones. For each letter an element has clauses: sets of elements, as bits, one
-     * of which must hold from the next place on.
+     * A formula or its contrary, in plainer words. At first it is a tree of at most 8 nodes without '!', each
+     * some places ahead of the node above it. Then the nodes are elements, those with lower numbers inside
+     * those with higher ones. Literals look at atoms: bits of letters, some of which may be places ahead, as
+     * to guess them would need a state for each set of places. For each letter of atoms an element has
+     * clauses: sets of elements, as bits, one of which must hold from the next place on.
      */
     private static final class Elements {
         static final int MOST = Formulas.LARGEST;
+        /** A tree of 8 nodes, of which none has more than two parts, has no more leaves. */
+        static final int MOST_ATOMS = 4;
         /** As many as there can be sets of 8 elements of which none is in another one. */
         static final int MOST_CLAUSES = 70;
         static final int NONE = -1;
+        /** Where a node stands that is not looked at any more. */
+        static final int AWAY = -3;
+        /** Where a node stands that must hold at each place for some time. */
+        static final int STEADY = -2;
+        /** Where a node stands that need hold at one place only. */
+        static final int ONCE = -1;
 
         static final int TRUE = 0;
         static final int FALSE = 1;
@@ -690,179 +731,117 @@ public final class Parityforge {
 
         final Formulas formulas;
         final Alphabet alphabet;
+        final int[] nodeForm = new int[MOST];
+        /** The parts of a node, perhaps none as the first one, or the bit and the value of a literal. */
+        final int[] one = new int[MOST];
+        final int[] two = new int[MOST];
+        /** How many places a node is ahead of the one above it. */
+        final int[] ahead = new int[MOST];
+        /** How many places ahead of the whole one a node's literals look, or ONCE or STEADY, or AWAY. */
+        final int[] offset = new int[MOST];
+        final int[] elementOf = new int[MOST];
+        int nodes;
+        /** The nodes that hold at all places if at one, as bits. */
+        int lasting;
         final int[] form = new int[MOST];
-        /** The first part of an element, perhaps none, or the bit of a literal. */
+        /** The first part of an element, perhaps none, or the atom of a literal. */
         final int[] left = new int[MOST];
         /** The second part of an element, or the value of a literal. */
         final int[] right = new int[MOST];
-        /** For each formula and side, 0 for itself and 1 for its contrary, the element and how far ahead it is. */
-        final int[] elementOf = new int[2 * Formulas.MOST];
-        final int[] aheadOf = new int[2 * Formulas.MOST];
-        final int[] needed = new int[Formulas.MOST];
-        final int[] clauses;
-        final int[] clauseCount;
+        final int[] atom = new int[MOST_ATOMS];
+        final int[] clauses = new int[(MOST << MOST_ATOMS) * MOST_CLAUSES];
+        final int[] clauseCount = new int[MOST << MOST_ATOMS];
+        int atoms;
         int count;
-        /** The elements that hold at all places if at one. */
-        int lasting;
         /** The elements that must not be put off for ever. */
         int promises;
-        /** The letter bits that literals look at. */
-        int used;
 
         Elements(Formulas formulas, Alphabet alphabet) {
             this.formulas = formulas;
             this.alphabet = alphabet;
-            clauses = new int[alphabet.letters * MOST * MOST_CLAUSES];
-            clauseCount = new int[alphabet.letters * MOST];
         }
 
         /** Makes the elements of a formula or of its contrary, and answers the one that is the whole. */
-        int gather(int formula, int side) {
-            count = 0;
+        int gather(int formula, int side, boolean looksAhead) {
+            nodes = 0;
             lasting = 0;
+            atoms = 0;
+            count = 0;
             promises = 0;
-            used = 0;
             if (!formulas.has(formula)) {
                 return NONE;
             }
-            markNeeded(formula, side);
-            for (int part = 0; part <= formula; part++) {
-                for (int of = 0; of < 2; of++) {
-                    if ((needed[part] >> of & 1) != 0) {
-                        makePart(part, of);
-                    }
-                }
+            offset[addNode(2 * formula + side, NONE)] = ONCE;
+            for (int node = 0; node < nodes; node++) {
+                expand(node);
             }
-            int whole = ahead(elementOf[2 * formula + side], aheadOf[2 * formula + side]);
-            if (whole != NONE) {
-                markLive(whole);
+            for (int node = nodes - 1; node >= 0; node--) {
+                pullAhead(node);
             }
-            for (int letter = 0; letter < alphabet.letters; letter++) {
+            for (int node = 0; node < nodes; node++) {
+                placeParts(node, looksAhead);
+            }
+            for (int node = nodes - 1; node >= 0; node--) {
+                makeElement(node);
+            }
+            for (int letter = 0; letter < letters(); letter++) {
                 for (int element = 0; element < count; element++) {
-                    if ((letter & used) == letter) {
-                        writeClauses(letter, element);
-                    }
+                    writeClauses(letter, element);
                 }
             }
-            return whole;
+            return elementOf[0];
         }
 
-        private void markNeeded(int formula, int side) {
-            for (int part = 0; part < formula; part++) {
-                needed[part] = 0;
-            }
-            needed[formula] = 1 << side;
-            for (int part = formula; part >= 0; part--) {
-                if (needed[part] != 0) {
-                    char kind = formulas.kind[part];
-                    int parts = Formulas.partsOf(kind);
-                    int swapped = needed[part] >> 1 | (needed[part] & 1) << 1;
-                    if (parts >= 1) {
-                        need(formulas.first[part], kind == '!' || kind == '>' ? swapped : needed[part]);
-                    }
-                    if (parts == 2) {
-                        need(formulas.second[part], needed[part]);
-                    }
-                }
-            }
+        int letters() {
+            return 1 << atoms;
         }
 
-        private void need(int part, int sides) {
-            if (formulas.has(part)) {
-                needed[part] |= sides;
-            }
-        }
-
-        private void makePart(int part, int side) {
-            char kind = formulas.kind[part];
-            int first = formulas.first[part];
-            int second = formulas.second[part];
-            int parts = Formulas.partsOf(kind);
-            int at = 2 * part + side;
-            int newForm = formOf(kind, side);
-            if (parts == 0) {
-                boolean output = kind == 'o';
-                boolean literal = output || kind == 'i';
-                int bit = output ? alphabet.inputs + first : first;
-                elementOf[at] = element(newForm, literal ? bit : NONE, literal ? 1 - side : NONE);
-                aheadOf[at] = 0;
-            } else if (first >= 0 && first < part && second >= 0 && second < part) {
-                int swapped = kind == '!' || kind == '>' ? 1 - side : side;
-                if (parts == 1) {
-                    makeOfOne(at, kind, newForm, 2 * first + swapped);
-                } else {
-                    makeOfTwo(at, newForm, 2 * first + swapped, 2 * second + side);
-                }
-            }
-        }
-
-        /** Leaves away what does not count, as with F F a, F (a U b) or G F G a. */
-        private void makeOfOne(int at, char kind, int newForm, int from) {
-            int part = elementOf[from];
-            int places = aheadOf[from];
-            boolean lasts = part == NONE || (lasting >> part & 1) != 0;
-            if (kind == 'X') {
-                places++;
-            } else if (kind != '!' && !lasts) {
-                part = element(newForm, NONE, form[part] == newForm ? right[part] : part);
-                lasts = part == NONE || (lasting >> part & 1) != 0;
-            }
-            elementOf[at] = part;
-            aheadOf[at] = lasts ? 0 : places;
-        }
-
-        /** What stands ahead in both parts stands ahead of the whole; a U F b and a U G F b are without a. */
-        private void makeOfTwo(int at, int newForm, int one, int other) {
-            int first = elementOf[one];
-            int second = elementOf[other];
-            elementOf[at] = second;
-            aheadOf[at] = aheadOf[other];
-            if (first == NONE || second == NONE) {
-                return;
-            }
-            boolean firstLasts = (lasting >> first & 1) != 0;
-            boolean secondLasts = (lasting >> second & 1) != 0;
-            boolean alone = secondLasts || form[second] == newForm && left[second] == NONE;
-            if (alone && (newForm == UNTIL || newForm == RELEASE)) {
-                return;
-            }
-            int firstPlaces = firstLasts ? aheadOf[other] : aheadOf[one];
-            int secondPlaces = secondLasts ? firstPlaces : aheadOf[other];
-            int places = Math.min(firstPlaces, secondPlaces);
-            int nearFirst = ahead(first, firstPlaces - places);
-            elementOf[at] = element(newForm, nearFirst, ahead(second, secondPlaces - places));
-            aheadOf[at] = places;
-        }
-
-        private int ahead(int element, int places) {
-            int result = element;
-            for (int i = 0; i < places && i < MOST; i++) {
-                result = element(NEXT, NONE, result);
-            }
-            return result;
-        }
-
-        private int element(int newForm, int first, int second) {
-            for (int i = 0; i < count; i++) {
-                if (form[i] == newForm && left[i] == first && right[i] == second) {
-                    return i;
-                }
-            }
-            if (count >= MOST) {
+        /** Adds a node for a formula, two numbers each, the second one for its contrary; it is expanded later. */
+        private int addNode(int code, int above) {
+            if (nodes >= MOST) {
                 return NONE;
             }
-            int made = count;
-            count++;
-            form[made] = newForm;
-            left[made] = first;
-            right[made] = second;
-            boolean both = first >= 0 && second >= 0 && (lasting >> first & lasting >> second & 1) != 0;
-            int crossed = newForm == UNTIL ? RELEASE : newForm == RELEASE ? UNTIL : NONE;
-            boolean crosses = first == NONE && second >= 0 && left[second] == NONE && form[second] == crossed;
-            if (newForm == TRUE || newForm == FALSE || crosses || both && (newForm == AND || newForm == OR)) {
-                lasting |= 1 << made;
+            int node = nodes;
+            nodes++;
+            one[node] = code;
+            two[node] = above;
+            ahead[node] = 0;
+            offset[node] = AWAY;
+            return node;
+        }
+
+        /** Leaves away what does not count under an F or a G right above, as with F F a, F (a U b), G (a R b). */
+        private void expand(int node) {
+            int part = one[node] >> 1;
+            int side = one[node] & 1;
+            int above = two[node];
+            char kind = formulas.kind[part];
+            boolean passed = true;
+            for (int i = 0; i < MOST && passed; i++) {
+                passed = kind == 'X' || kind == '!' || formOf(kind, side) == above;
+                if (passed) {
+                    ahead[node] += kind == 'X' ? 1 : 0;
+                    side = kind == '!' ? 1 - side : side;
+                    part = Formulas.partsOf(kind) == 2 ? formulas.second[part] : formulas.first[part];
+                    kind = formulas.kind[part];
+                }
             }
-            return made;
+            int newForm = formOf(kind, side);
+            int first = formulas.first[part];
+            one[node] = NONE;
+            two[node] = NONE;
+            if (newForm == LITERAL) {
+                one[node] = kind == 'o' ? alphabet.inputs + first : first;
+                two[node] = 1 - side;
+            } else if (Formulas.partsOf(kind) == 1) {
+                two[node] = addNode(2 * first + side, newForm);
+            } else if (Formulas.partsOf(kind) == 2) {
+                one[node] = addNode(2 * first + (kind == '>' ? 1 - side : side), NONE);
+                two[node] = addNode(2 * formulas.second[part] + side, NONE);
+            }
+            boolean either = above == RELEASE && newForm == UNLESS;
+            boolean both = above == UNTIL && newForm == FREED;
+            nodeForm[node] = either ? OR : both ? AND : newForm;
         }
 
         private static int formOf(char kind, int side) {
@@ -879,19 +858,122 @@ public final class Parityforge {
             }
         }
 
-        private void markLive(int whole) {
-            int live = 1 << whole;
-            for (int i = whole; i >= 0; i--) {
-                if ((live >> i & 1) != 0) {
-                    if (form[i] == LITERAL) {
-                        used |= 1 << left[i];
-                    } else {
-                        live |= left[i] >= 0 ? 1 << left[i] : 0;
-                        live |= right[i] >= 0 ? 1 << right[i] : 0;
-                    }
-                    promises |= form[i] == UNTIL || form[i] == FREED ? 1 << i : 0;
+        private boolean lasts(int node) {
+            return node < 0 || (lasting >> node & 1) != 0;
+        }
+
+        /** What is ahead in all parts is ahead of the whole; a U F b and a U G F b are without a. */
+        private void pullAhead(int node) {
+            int newForm = nodeForm[node];
+            int first = one[node];
+            int second = two[node];
+            boolean constant = newForm == TRUE || newForm == FALSE;
+            if (constant || newForm == LITERAL || second < 0) {
+                lasting |= constant ? 1 << node : 0;
+                ahead[node] = constant ? 0 : ahead[node];
+                return;
+            }
+            boolean comes = newForm == UNTIL || newForm == RELEASE;
+            if (comes && (lasts(second) || nodeForm[second] == newForm && one[second] == NONE)) {
+                nodeForm[node] = nodeForm[second];
+                one[node] = one[second];
+                two[node] = two[second];
+                ahead[node] = lasts(second) ? 0 : ahead[node] + ahead[second];
+                lasting |= lasts(second) ? 1 << node : 0;
+                return;
+            }
+            int least = lasts(second) ? lasts(first) ? 0 : ahead[first] : ahead[second];
+            if (!lasts(first)) {
+                least = Math.min(least, ahead[first]);
+                ahead[first] -= least;
+            }
+            ahead[second] -= lasts(second) ? 0 : least;
+            ahead[node] += least;
+            boolean crosses = comes && first == NONE && one[second] == NONE
+                && nodeForm[second] == (newForm == UNTIL ? RELEASE : UNTIL);
+            if (crosses || (newForm == AND || newForm == OR) && lasts(first) && lasts(second)) {
+                lasting |= 1 << node;
+                ahead[node] = 0;
+            }
+        }
+
+        /** What need hold in some places only, not in each for some time, is looked at ahead. */
+        private void placeParts(int node, boolean looksAhead) {
+            int place = offset[node];
+            int newForm = nodeForm[node];
+            if (place == AWAY || newForm == LITERAL) {
+                return;
+            }
+            boolean ends = newForm == UNTIL || newForm == UNLESS;
+            boolean passesOn = place < 0 && newForm == AND || place == ONCE && newForm == OR;
+            int firstPlace = passesOn ? place : looksAhead ? Math.max(place, 0) : STEADY;
+            int secondPlace = firstPlace;
+            if (place == ONCE && !passesOn) {
+                firstPlace = ends ? STEADY : ONCE;
+                secondPlace = ends ? ONCE : STEADY;
+            }
+            putPlace(one[node], firstPlace);
+            putPlace(two[node], secondPlace);
+        }
+
+        private void putPlace(int part, int place) {
+            if (part >= 0) {
+                offset[part] = place < 0 ? place : lasts(part) ? 0 : place + ahead[part];
+            }
+        }
+
+        private void makeElement(int node) {
+            if (offset[node] == AWAY) {
+                return;
+            }
+            int first = one[node];
+            int second = two[node];
+            int result;
+            if (nodeForm[node] == LITERAL) {
+                result = element(LITERAL, atomAt(first, Math.max(offset[node], 0)), second);
+            } else {
+                int leftPart = first >= 0 ? elementOf[first] : NONE;
+                result = element(nodeForm[node], leftPart, second >= 0 ? elementOf[second] : NONE);
+            }
+            if (offset[node] < 0) {
+                for (int i = 0; i < ahead[node]; i++) {
+                    result = element(NEXT, NONE, result);
                 }
             }
+            elementOf[node] = result;
+        }
+
+        private int atomAt(int bit, int places) {
+            int wanted = Alphabet.MOST_BITS * places + bit;
+            for (int i = 0; i < atoms; i++) {
+                if (atom[i] == wanted) {
+                    return i;
+                }
+            }
+            if (atoms >= MOST_ATOMS) {
+                return NONE;
+            }
+            atom[atoms] = wanted;
+            atoms++;
+            return atoms - 1;
+        }
+
+        private int element(int newForm, int first, int second) {
+            for (int i = 0; i < count; i++) {
+                if (form[i] == newForm && left[i] == first && right[i] == second) {
+                    return i;
+                }
+            }
+            if (count >= MOST) {
+                return NONE;
+            }
+            int made = count;
+            count++;
+            form[made] = newForm;
+            left[made] = first;
+            right[made] = second;
+            promises |= newForm == UNTIL || newForm == FREED ? 1 << made : 0;
+            return made;
         }
 
         private void writeClauses(int letter, int element) {
@@ -1011,7 +1093,6 @@ public final class Parityforge {
     private static final class AutomatonMaker {
         static final int SETS = 1 << Elements.MOST;
 
-        final Alphabet alphabet;
         final Elements elements;
         final Rows raw = new Rows();
         final Rows merged = new Rows();
@@ -1027,7 +1108,6 @@ public final class Parityforge {
         int round;
 
         AutomatonMaker(Formulas formulas, Alphabet alphabet) {
-            this.alphabet = alphabet;
             elements = new Elements(formulas, alphabet);
         }
 
@@ -1040,10 +1120,8 @@ public final class Parityforge {
             stateFor(whole >= 0 ? 1 << whole : 0);
             raw.clear();
             for (int state = 0; state < states; state++) {
-                for (int letter = 0; letter < alphabet.letters; letter++) {
-                    if ((letter & elements.used) == letter) {
-                        writeRow(setOf[state], letter);
-                    }
+                for (int letter = 0; letter < elements.letters(); letter++) {
+                    writeRow(setOf[state], letter);
                     raw.endRow();
                 }
             }
@@ -1138,7 +1216,7 @@ public final class Parityforge {
         }
 
         private int split() {
-            int many = alphabet.letters;
+            int many = elements.letters();
             int classes = 0;
             for (int state = 0; state < states; state++) {
                 int same = -1;
@@ -1160,7 +1238,7 @@ public final class Parityforge {
         }
 
         private Automaton pick(int classes) {
-            int many = alphabet.letters;
+            int many = elements.letters();
             int total = 0;
             for (int c = 0; c < classes; c++) {
                 total += merged.startOf((firstOf[c] + 1) * many) - merged.startOf(firstOf[c] * many);
@@ -1178,7 +1256,16 @@ public final class Parityforge {
                     start[c * many + letter + 1] = at;
                 }
             }
-            return new Automaton(Integer.bitCount(elements.promises), many, elements.used, start, edges);
+            int[] atoms = Arrays.copyOf(elements.atom, elements.atoms);
+            int reach = 0;
+            for (int i = 0; i < atoms.length; i++) {
+                reach = Math.max(reach, atoms[i] / Alphabet.MOST_BITS);
+            }
+            for (int i = 0; i < atoms.length; i++) {
+                int bit = atoms[i] % Alphabet.MOST_BITS;
+                atoms[i] = Alphabet.MOST_BITS * (reach - atoms[i] / Alphabet.MOST_BITS) + bit;
+            }
+            return new Automaton(Integer.bitCount(elements.promises), reach, atoms, start, edges);
         }
     }
 
@@ -1346,26 +1433,38 @@ public final class Parityforge {
      */
     private static final class Product {
         static final int MOST_PARTS = 4;
-        static final int KEY_BITS = 7;
-        static final int KEYS = (1 << KEY_BITS) - 1;
+        /** A key has the state of the machine, how far it is ahead, its last letters, and the automata's states. */
+        static final int KNOWN_BITS = 3;
+        static final int LETTERS_AT = 1 + KNOWN_BITS;
+        static final int MOST_KNOWN = 7;
+        static final int LETTERS = (1 << Alphabet.MOST_BITS * MOST_KNOWN) - 1;
+        static final int STATES_AT = 32;
+        static final int STATE_BITS = 7;
+        static final int STATES = (1 << STATE_BITS) - 1;
         static final int BRANCH_BITS = 20;
         static final int BRANCHES = (1 << BRANCH_BITS) - 1;
         static final int GONE = -1;
-        static final int MIXER = 0x9E3779B1;
-        /** No search has more: an automaton has at most 27 states, a machine 2, and 2 * 27 to the power of 4 is less. */
+        static final long MIXER = 0x9E3779B97F4A7C15L;
         static final int MOST_NODES = 1 << 21;
+        static final int FEW_NODES = 4096;
+        static final int NO_WORD = 0;
+        static final int A_WORD = 1;
+        static final int UNKNOWN = 2;
+        /** The sets of up to 4 automata by their sizes. */
+        static final int[] SETS = {1, 2, 4, 8, 3, 5, 6, 9, 10, 12, 7, 11, 13, 14};
         static final int MOST_TURNS = 1 << 30;
         static final int MOST_FLOOR = 1 << 30;
 
         final Automaton[] part = new Automaton[MOST_PARTS];
-        final int[] markShift = new int[MOST_PARTS];
         int parts;
+        /** How many places the machine runs ahead of the automata, as they look at letters so far ahead. */
+        int reach;
+        /** The bits of the letters, from the place of the automata on, that are looked at later too. */
+        int kept;
         int allMarks;
-        int markBits;
         /** Numbers of nodes above a floor, which rises with each search, so that old ones are void. */
         int[] slots = new int[256];
-        /** For each node the states of the machine and the automata. */
-        int[] key = new int[128];
+        long[] key = new long[128];
         /** For each node how far its edges have been looked at, GONE once its group is done with. */
         int[] turn = new int[128];
         int[] path = new int[128];
@@ -1378,13 +1477,11 @@ public final class Parityforge {
         int depth;
         int living;
         int roots;
-        int edgeKey;
+        long edgeKey;
         int edgeMarks;
 
         void clear() {
             parts = 0;
-            allMarks = 0;
-            markBits = 0;
         }
 
         void add(Automaton automaton) {
@@ -1395,33 +1492,73 @@ public final class Parityforge {
             }
             if (parts < MOST_PARTS) {
                 part[parts] = automaton;
-                markShift[parts] = markBits;
-                allMarks |= (1 << automaton.marks) - 1 << markBits;
-                markBits += automaton.marks;
                 parts++;
             }
         }
 
+        /**
+         * If there are many nodes, the sets of fewer automata are asked first, by their sizes: if some have no
+         * word, all have none.
+         */
         boolean hasWord(Machine machine) {
+            int all = (1 << parts) - 1;
+            int answer = search(machine, all, FEW_NODES);
+            for (int i = 0; i < SETS.length && answer == UNKNOWN; i++) {
+                if (SETS[i] < all && search(machine, SETS[i], MOST_NODES) == NO_WORD) {
+                    return false;
+                }
+            }
+            return (answer == UNKNOWN ? search(machine, all, MOST_NODES) : answer) == A_WORD;
+        }
+
+        private int search(Machine machine, int chosen, int most) {
+            lookAhead(chosen);
             forgetNodes();
-            enter(0, 0);
+            enter(slotOf(0), 0, 0);
             for (int i = 0; i < MOST_TURNS && depth > 0; i++) {
                 int node = path[depth - 1];
-                if (!findEdge(machine, node)) {
+                int letter = turn[node] >> BRANCH_BITS;
+                if (letter >= machine.choices) {
                     leave(node);
+                } else if (!takeBranch(machine, chosen, node)) {
+                    turn[node] = letter + 1 << BRANCH_BITS;
                 } else {
-                    int target = nodeOf(edgeKey);
+                    turn[node]++;
+                    if (count >= key.length) {
+                        grow();
+                    }
+                    int slot = slotOf(edgeKey);
+                    int target = slots[slot] - floor - 1;
                     if (target < 0) {
-                        if (count >= key.length) {
-                            grow();
+                        if (count >= most) {
+                            return UNKNOWN;
                         }
-                        enter(edgeKey, edgeMarks);
+                        enter(slot, edgeKey, edgeMarks);
                     } else if (turn[target] != GONE && closesLoop(target, edgeMarks)) {
-                        return true;
+                        return A_WORD;
                     }
                 }
             }
-            return false;
+            return NO_WORD;
+        }
+
+        private void lookAhead(int chosen) {
+            int markBits = 0;
+            reach = 0;
+            kept = 0;
+            for (int i = 0; i < parts; i++) {
+                if ((chosen >> i & 1) == 0) {
+                    continue;
+                }
+                markBits += part[i].marks;
+                reach = Math.max(reach, part[i].reach);
+                for (int k = 0; k < part[i].atoms.length; k++) {
+                    for (int bit = part[i].atoms[k] - Alphabet.MOST_BITS; bit >= 0; bit -= Alphabet.MOST_BITS) {
+                        kept |= 1 << bit;
+                    }
+                }
+            }
+            allMarks = (1 << markBits) - 1;
         }
 
         private void forgetNodes() {
@@ -1436,34 +1573,21 @@ public final class Parityforge {
             roots = 0;
         }
 
-        private int nodeOf(int wanted) {
+        /** The slot that has the node of a key, or in which it may be put. */
+        private int slotOf(long wanted) {
             int mask = slots.length - 1;
-            int at = wanted * MIXER;
-            at = (at ^ at >>> 15) & mask;
+            int at = (int) (wanted * MIXER >>> 32) & mask;
             for (int i = 0; i <= mask; i++) {
                 int node = slots[at] - floor - 1;
-                if (node < 0 || node >= count) {
-                    return -1;
-                }
-                if (key[node] == wanted) {
-                    return node;
+                if (node < 0 || node >= count || key[node] == wanted) {
+                    break;
                 }
                 at = at + 1 & mask;
             }
-            return -1;
+            return at;
         }
 
-        private void putSlot(int node) {
-            int mask = slots.length - 1;
-            int at = key[node] * MIXER;
-            at = (at ^ at >>> 15) & mask;
-            for (int i = 0; i <= mask && slots[at] > floor; i++) {
-                at = at + 1 & mask;
-            }
-            slots[at] = floor + node + 1;
-        }
-
-        private void enter(int newKey, int marks) {
+        private void enter(int slot, long newKey, int marks) {
             if (count >= key.length) {
                 return;
             }
@@ -1471,7 +1595,7 @@ public final class Parityforge {
             count++;
             key[node] = newKey;
             turn[node] = 0;
-            putSlot(node);
+            slots[slot] = floor + count;
             path[depth] = node;
             depth++;
             alive[living] = node;
@@ -1496,8 +1620,13 @@ public final class Parityforge {
             entryMarks = Arrays.copyOf(entryMarks, size);
             slots = new int[2 * size];
             floor = 0;
+            int mask = slots.length - 1;
             for (int node = 0; node < count; node++) {
-                putSlot(node);
+                int at = (int) (key[node] * MIXER >>> 32) & mask;
+                for (int i = 0; i <= mask && slots[at] != 0; i++) {
+                    at = at + 1 & mask;
+                }
+                slots[at] = node + 1;
             }
         }
 
@@ -1528,54 +1657,49 @@ public final class Parityforge {
             return sum == allMarks;
         }
 
-        /** Finds the next edge of a node: its turn counts the letters and, for each, the choices of edges. */
-        private boolean findEdge(Machine machine, int node) {
-            int from = key[node];
-            int letter = turn[node] >> BRANCH_BITS;
-            while (letter < machine.choices) {
-                int index = (from & 1) * machine.choices + letter;
-                int target = index < Machine.MOST_STEPS ? machine.next[index] : Machine.NOWHERE;
-                if (target >= 0 && takeBranch(from, target, machine.whole[index], turn[node] & BRANCHES)) {
-                    turn[node]++;
-                    return true;
-                }
-                letter++;
-                turn[node] = letter << BRANCH_BITS;
+        /**
+         * Takes the edge of a node by a letter and a choice of edges, the automata's choices being the digits
+         * of the branch. The machine is ahead: an automaton reads a place once it knows all letters for it.
+         */
+        private boolean takeBranch(Machine machine, int chosen, int node) {
+            long from = key[node];
+            int index = (int) (from & 1) * machine.choices + (turn[node] >> BRANCH_BITS);
+            if (index >= Machine.MOST_STEPS || machine.next[index] < 0) {
+                return false;
             }
-            return false;
-        }
-
-        /** Reads a letter by one choice of edges, the automata's choices being the digits of the branch. */
-        private boolean takeBranch(int from, int target, int letter, int branch) {
-            int rest = branch;
-            int keyLeft = from >> 1;
-            int newKey = target;
-            int marks = 0;
+            int known = (int) (from >> 1) & MOST_KNOWN;
+            long letters = (from >> LETTERS_AT & LETTERS) << Alphabet.MOST_BITS | machine.whole[index];
+            edgeKey = (letters & kept) << LETTERS_AT | Math.min(known + 1, reach) << 1 | machine.next[index];
+            edgeMarks = 0;
+            int rest = turn[node] & BRANCHES;
+            int markBits = 0;
             for (int i = 0; i < parts; i++) {
                 Automaton automaton = part[i];
-                int row = (keyLeft & KEYS) * automaton.letters + (letter & automaton.used);
-                if (row < 0 || row + 1 >= automaton.start.length) {
+                if ((chosen >> i & 1) == 0 || known < automaton.reach) {
+                    continue;
+                }
+                int shift = STATES_AT + STATE_BITS * i;
+                int row = (int) (from >> shift) & STATES;
+                for (int k = automaton.atoms.length - 1; k >= 0; k--) {
+                    row = row << 1 | (int) (letters >> automaton.atoms[k]) & 1;
+                }
+                if (row + 1 >= automaton.start.length) {
                     return false;
                 }
-                int index = automaton.start[row];
-                int many = automaton.start[row + 1] - index;
+                int edge = automaton.start[row];
+                int many = automaton.start[row + 1] - edge;
                 if (many <= 0) {
                     return false;
                 }
-                if (many > 1) {
-                    index += rest % many;
-                    rest /= many;
-                }
-                if (index < 0 || index >= automaton.edges.length) {
+                edge += rest % many;
+                rest /= many;
+                if (edge >= automaton.edges.length) {
                     return false;
                 }
-                int edge = automaton.edges[index];
-                newKey |= (edge & Automaton.TARGETS) << 1 + KEY_BITS * i;
-                marks |= edge >> Automaton.TARGET_BITS << markShift[i];
-                keyLeft >>= KEY_BITS;
+                edgeKey |= (long) (automaton.edges[edge] & Automaton.TARGETS) << shift;
+                edgeMarks |= automaton.edges[edge] >> Automaton.TARGET_BITS << markBits;
+                markBits += automaton.marks;
             }
-            edgeKey = newKey;
-            edgeMarks = marks;
             return rest == 0;
         }
     }
@@ -1585,6 +1709,7 @@ public final class Parityforge {
         static final int MOST_ASSUMED = 2;
         static final int MOST_WISHED = 4;
         static final int MOST_TRIES = 1000000;
+        static final int DEARER = 2;
         static final int PLAIN = 0;
         static final int CONTRARY = 1;
         static final char CONTROLLER = 'c';
@@ -1677,10 +1802,20 @@ public final class Parityforge {
             return product.hasWord(free);
         }
 
+        /** Makes an automaton that looks ahead, as all then look at the same letters, if it is not much dearer. */
         private void makeAutomaton(int formula, int side) {
-            if (formulas.has(formula) && automata[2 * formula + side] == null) {
-                automata[2 * formula + side] = maker.make(maker.elements.gather(formula, side));
+            if (!formulas.has(formula) || automata[2 * formula + side] != null) {
+                return;
             }
+            Automaton made = maker.make(maker.elements.gather(formula, side, true));
+            if (made.reach > 0) {
+                Automaton near = maker.make(maker.elements.gather(formula, side, false));
+                made = made.cost() > DEARER * near.cost() ? near : made;
+            }
+            for (int i = 0; i < automata.length; i++) {
+                made = automata[i] != null && automata[i].isLike(made) ? automata[i] : made;
+            }
+            automata[2 * formula + side] = made;
         }
 
         private void addPart(int formula, int side) {
