@@ -1,7 +1,7 @@
 import java.util.NoSuchElementException;
 
 /** For each promise of the document: ordinary calls, the edges that it names, and wrong calls. */
-public final class ParityforgePromises {
+public class ParityforgePromises {
   interface Call { Object answer(); }
 
   static final Class<? extends RuntimeException> ILLEGAL = IllegalArgumentException.class;
