@@ -1429,7 +1429,7 @@ public final class Parityforge {
     /**
      * Looks for a word of a machine that some automata all take: a loop, reached from the beginning of all,
      * that has each mark of each automaton. The ways are gone through in depth; loops that hang together
-     * are one group, whose first node is its root (Couvreur's algorithm).
+     * are one group, whose first node is its root (Couvreur's algorithm). Rows grow with what a search needs.
      */
     private static final class Product {
         static final int MOST_PARTS = 4;
@@ -1445,13 +1445,19 @@ public final class Parityforge {
         static final int BRANCHES = (1 << BRANCH_BITS) - 1;
         static final int GONE = -1;
         static final long MIXER = 0x9E3779B97F4A7C15L;
-        static final int MOST_NODES = 1 << 21;
+        /**
+         * No search has so many: the states of an automaton, each as often as there are letters kept for it, are
+         * 28 at most, and 2 states of a machine, 4 automata and up to 4 letters known make 2 * 28^4 * 5 at most.
+         */
+        static final int MOST_NODES = 1 << 23;
+        /** From here on fewer automata are asked first. */
         static final int FEW_NODES = 4096;
         static final int NO_WORD = 0;
         static final int A_WORD = 1;
         static final int UNKNOWN = 2;
         /** The sets of up to 4 automata by their sizes. */
         static final int[] SETS = {1, 2, 4, 8, 3, 5, 6, 9, 10, 12, 7, 11, 13, 14};
+        /** Nor so many turns: each of 8 letters has 34^4 edges at most, and each node is left once. */
         static final int MOST_TURNS = 1 << 30;
         static final int MOST_FLOOR = 1 << 30;
 

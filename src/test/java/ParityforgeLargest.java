@@ -206,7 +206,6 @@ public final class ParityforgeLargest extends ParityforgePromises {
       Parityforge p = new Parityforge(2, 2);
       for (int i = 0; i < 4; i++) p.formula(i < 2 ? 'i' : 'o', i % 2, 0);
       for (int i = 4; i < 8; i++) p.formula('X', i - 1, 0);
-      int[] size = {1, 1, 1, 1, 2, 3, 4, 5};
       for (int i = 8; i < 60; i++) {
         int far = i % 4;
         if (i % 2 == 0) p.formula("UWR|".charAt(far), random.nextInt(4), 4 + random.nextInt(4));
