@@ -438,6 +438,38 @@ public final class ParityforgeBounds extends ParityforgePromises {
     machine("e", p, 2, 4, false);
   }
 
+  /** Two states that need the greatest letters and the last rows. */
+  static void greatestRows() {
+    Parityforge p = literals(1, 2);
+    int next = p.formula('X', 1, 0);
+    p.wish(p.formula('G', p.formula('>', 0, next), 0));
+    p.wish(p.formula('G', p.formula('>', next, 0), 0));
+    p.wish(p.formula('G', p.formula('>', 1, 2), 0));
+    p.wish(p.formula('G', p.formula('>', 2, 1), 0));
+    rows("both outputs as the input before", p, 2, "00013031");
+    machine("c", p, 2, 2, true);
+    p.drop();
+    // The letter 3 ahead of an input, and then too: the state 1 gives it by both letters, the state 0 by none.
+    Parityforge q = literals(2, 2);
+    int both = q.formula('&', 0, 1);
+    int told = q.formula('&', 2, 3);
+    int nextBoth = q.formula('X', both, 0);
+    q.wish(q.formula('>', told, nextBoth));
+    q.wish(q.formula('>', nextBoth, told));
+    rows("an environment that is not told", q, 2, "01010100" + "30303030");
+    machine("e", q, 2, 4, false);
+  }
+
+  static void rows(String of, Parityforge p, int states, String due) {
+    StringBuilder rows = new StringBuilder();
+    for (int state = 0; state < p.states(); state++) {
+      for (int letter = 0; letter < due.length() / states / 2; letter++) {
+        rows.append(p.given(state, letter)).append(p.next(state, letter));
+      }
+    }
+    due("16, 17: " + of, rows.toString(), due);
+  }
+
   static void machine(String kind, Parityforge p, int states, int letters, boolean controller) {
     due("14: the kind", "" + p.verdict(), kind);
     due("15: the states", p.states(), states);
@@ -640,6 +672,7 @@ public final class ParityforgeBounds extends ParityforgePromises {
     twoAssumptionsAndFourWishes();
     eachOneCounts();
     statesAndLetters();
+    greatestRows();
     nothingIsFound();
     endsOfRuns();
     replays();
