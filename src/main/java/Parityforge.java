@@ -604,12 +604,12 @@ public final class Parityforge {
                     kept |= 1 << bit;
                 }
             }
-            return (start.length - 1) / letters << Integer.bitCount(kept);
+            return start.length - 1 >> atoms.length << Integer.bitCount(kept);
         }
 
         boolean isLike(Automaton other) {
-            return marks == other.marks && reach == other.reach && sameRow(atoms, other.atoms) && sameRow(start, other.start)
-                && sameRow(edges, other.edges);
+            return marks == other.marks && reach == other.reach && sameRow(atoms, other.atoms)
+                && sameRow(start, other.start) && sameRow(edges, other.edges);
         }
 
         private static boolean sameRow(int[] one, int[] other) {
