@@ -771,8 +771,9 @@ public final class Parityforge {
             if (!formulas.has(formula)) {
                 return NONE;
             }
-            offset[addNode(2 * formula + side, NONE)] = ONCE;
-            for (int node = 0; node < nodes; node++) {
+            addNode(2 * formula + side, NONE);
+            offset[0] = ONCE;
+            for (int node = 0; node < nodes && node < MOST; node++) {
                 expand(node);
             }
             for (int node = nodes - 1; node >= 0; node--) {
@@ -1119,7 +1120,7 @@ public final class Parityforge {
             states = 0;
             stateFor(whole >= 0 ? 1 << whole : 0);
             raw.clear();
-            for (int state = 0; state < states; state++) {
+            for (int state = 0; state < states && state < SETS; state++) {
                 for (int letter = 0; letter < elements.letters(); letter++) {
                     writeRow(setOf[state], letter);
                     raw.endRow();
@@ -1457,7 +1458,7 @@ public final class Parityforge {
         static final int UNKNOWN = 2;
         /** The sets of up to 4 automata by their sizes. */
         static final int[] SETS = {1, 2, 4, 8, 3, 5, 6, 9, 10, 12, 7, 11, 13, 14};
-        /** Nor so many turns: each of 8 letters has 34^4 edges at most, and each node is left once. */
+        /** Nor so many turns: for each of at most 16 steps of a machine all nodes together have some 34^4 edges. */
         static final int MOST_TURNS = 1 << 30;
         static final int MOST_FLOOR = 1 << 30;
 
