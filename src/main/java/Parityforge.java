@@ -1447,8 +1447,9 @@ public final class Parityforge {
         static final int GONE = -1;
         static final long MIXER = 0x9E3779B97F4A7C15L;
         /**
-         * No search has so many: the states of an automaton, each as often as there are letters kept for it, are
-         * 28 at most, and 2 states of a machine, 4 automata and up to 4 letters known make 2 * 28^4 * 5 at most.
+         * No search has so many. Of all formulas of the size 8 and less, which ParityforgeAutomata counts, none has
+         * an automaton with more than 28 states, each as often as there are letters kept for it; so 2 states of a
+         * machine, 4 automata and 0 to 4 letters known make 2 * 28^4 * 5 nodes at most, some 6 millions.
          */
         static final int MOST_NODES = 1 << 23;
         /** From here on fewer automata are asked first. */
@@ -1458,7 +1459,10 @@ public final class Parityforge {
         static final int UNKNOWN = 2;
         /** The sets of up to 4 automata by their sizes. */
         static final int[] SETS = {1, 2, 4, 8, 3, 5, 6, 9, 10, 12, 7, 11, 13, 14};
-        /** Nor so many turns: for each of at most 16 steps of a machine all nodes together have some 34^4 edges. */
+        /**
+         * Nor so many turns: none has more than 34 edges for one letter, those of all its states together, so at
+         * most 16 steps of a machine make 16 * 34^4 * 5 edges, and 17 turns a node take no edge: some 211 millions.
+         */
         static final int MOST_TURNS = 1 << 30;
         static final int MOST_FLOOR = 1 << 30;
 
