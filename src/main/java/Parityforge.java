@@ -1562,7 +1562,7 @@ public final class Parityforge {
                     continue;
                 }
                 markBits += part[i].marks;
-                reach = Math.max(reach, part[i].reach);
+                reach = part[i].reach > reach ? part[i].reach : reach;
                 for (int k = 0; k < part[i].atoms.length; k++) {
                     for (int bit = part[i].atoms[k] - Alphabet.MOST_BITS; bit >= 0; bit -= Alphabet.MOST_BITS) {
                         kept |= 1 << bit;
@@ -1575,7 +1575,9 @@ public final class Parityforge {
         private void forgetNodes() {
             floor += count;
             if (floor >= MOST_FLOOR) {
-                Arrays.fill(slots, 0);
+                for (int i = 0; i < slots.length; i++) {
+                    slots[i] = 0;
+                }
                 floor = 0;
             }
             count = 0;
@@ -1617,22 +1619,37 @@ public final class Parityforge {
             roots++;
         }
 
+        /** Makes the rows twice as long; written out, as calls may not go deeper here (rule 11). */
         private void grow() {
             int size = 2 * key.length;
             if (size > MOST_NODES) {
                 return;
             }
-            key = Arrays.copyOf(key, size);
-            turn = Arrays.copyOf(turn, size);
-            path = Arrays.copyOf(path, size);
-            alive = Arrays.copyOf(alive, size);
-            root = Arrays.copyOf(root, size);
-            rootMarks = Arrays.copyOf(rootMarks, size);
-            entryMarks = Arrays.copyOf(entryMarks, size);
+            long[] oldKey = key;
+            int[] oldTurn = turn;
+            int[] oldPath = path;
+            int[] oldAlive = alive;
+            int[] oldRoot = root;
+            int[] oldRootMarks = rootMarks;
+            int[] oldEntryMarks = entryMarks;
+            key = new long[size];
+            turn = new int[size];
+            path = new int[size];
+            alive = new int[size];
+            root = new int[size];
+            rootMarks = new int[size];
+            entryMarks = new int[size];
             slots = new int[2 * size];
             floor = 0;
             int mask = slots.length - 1;
-            for (int node = 0; node < count; node++) {
+            for (int node = 0; node < count && node < oldKey.length; node++) {
+                key[node] = oldKey[node];
+                turn[node] = oldTurn[node];
+                path[node] = oldPath[node];
+                alive[node] = oldAlive[node];
+                root[node] = oldRoot[node];
+                rootMarks[node] = oldRootMarks[node];
+                entryMarks[node] = oldEntryMarks[node];
                 int at = (int) (key[node] * MIXER >>> 32) & mask;
                 for (int i = 0; i <= mask && slots[at] != 0; i++) {
                     at = at + 1 & mask;
@@ -1680,7 +1697,8 @@ public final class Parityforge {
             }
             int known = (int) (from >> 1) & MOST_KNOWN;
             long letters = (from >> LETTERS_AT & LETTERS) << Alphabet.MOST_BITS | machine.whole[index];
-            edgeKey = (letters & kept) << LETTERS_AT | Math.min(known + 1, reach) << 1 | machine.next[index];
+            int knownThen = known < reach ? known + 1 : reach;
+            edgeKey = (letters & kept) << LETTERS_AT | knownThen << 1 | machine.next[index];
             edgeMarks = 0;
             int rest = turn[node] & BRANCHES;
             int markBits = 0;
@@ -2169,7 +2187,7 @@ public final class Parityforge {
                 findMoves(wonNodes(1), 1);
                 movesKnown = true;
             }
-            return isWonByOwner(node) ? moves[node] : lowest(edges[node]);
+            return (wonNodes(owner[node]) >> node & 1) != 0 ? moves[node] : lowest(edges[node]);
         }
 
         private void findMoves(int region, int player) {

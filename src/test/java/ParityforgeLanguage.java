@@ -145,6 +145,7 @@ public final class ParityforgeLanguage extends TreePathScanner<Void, Void> {
       String text = e.getEnclosingElement() + "." + e;
       if (text.equals("java.lang.Object.Object()")) return super.visitMethodInvocation(tree, none);
       libraryCalls.add(text);
+      if (method != null) calls.get(method).add(e);
       if (!CALLS.contains(text)) fault(4, tree, text);
     }
     return super.visitMethodInvocation(tree, none);
@@ -253,7 +254,7 @@ public final class ParityforgeLanguage extends TreePathScanner<Void, Void> {
     return super.visitEnhancedForLoop(tree, none);
   }
 
-  // ---- how deep calls go: rules 8 and 11
+  // ---- how deep calls go, those of the library too: rules 8 and 11
 
   String nameOf(Element e) {
     return e.getEnclosingElement() + "." + e.getSimpleName();
