@@ -8,13 +8,44 @@ import java.util.TreeSet;
 /** The public face is that of the document, with nothing more. */
 public final class ParityforgeFace {
   static final String[] DUE = {
-    "int formula(char, int, int)", "int size(int)", "boolean canBe(int)", "boolean isValid(int)",
-    "boolean follows(int, int)", "int letter(int)", "int setLoop(int)", "int clearWord()", "boolean holds(int, int)",
-    "int assume(int)", "int wish(int)", "int drop()", "char verdict()", "int states()", "int given(int, int)",
-    "int next(int, int)", "int core()", "int coreAt(int)", "char verdictWith(int)", "int begin()", "int step(int)",
-    "int state()", "int steps()", "int replay(int, int)", "int node(int, int)", "boolean edge(int, int, boolean)",
-    "int setPriority(int, int)", "int clearGame()", "int winner(int)", "int winnerAnew(int)", "int won(int)",
-    "int move(int)", "int lasting(int)", "long sum()", "float wonShare()", "double meanSize()", "boolean isTrue()",
+    "int formula(char, int, int) throws IllegalArgumentException, IndexOutOfBoundsException,"
+        + " UnsupportedOperationException, IllegalStateException",
+    "int size(int) throws IndexOutOfBoundsException",
+    "boolean canBe(int) throws IndexOutOfBoundsException",
+    "boolean isValid(int) throws IndexOutOfBoundsException",
+    "boolean follows(int, int) throws IndexOutOfBoundsException",
+    "int letter(int) throws IllegalArgumentException, IllegalStateException",
+    "int setLoop(int) throws IndexOutOfBoundsException",
+    "int clearWord()",
+    "boolean holds(int, int) throws IndexOutOfBoundsException, IllegalArgumentException, IllegalStateException",
+    "int assume(int) throws IndexOutOfBoundsException, IllegalStateException",
+    "int wish(int) throws IndexOutOfBoundsException, IllegalStateException",
+    "int drop()",
+    "char verdict()",
+    "int states()",
+    "int given(int, int) throws UnsupportedOperationException, IndexOutOfBoundsException",
+    "int next(int, int) throws UnsupportedOperationException, IndexOutOfBoundsException",
+    "int core() throws UnsupportedOperationException",
+    "int coreAt(int) throws UnsupportedOperationException, IndexOutOfBoundsException",
+    "char verdictWith(int) throws IndexOutOfBoundsException",
+    "int begin() throws UnsupportedOperationException",
+    "int step(int) throws IllegalStateException, IllegalArgumentException",
+    "int state() throws IllegalStateException",
+    "int steps() throws IllegalStateException",
+    "int replay(int, int) throws UnsupportedOperationException, IllegalArgumentException",
+    "int node(int, int) throws IllegalArgumentException, IllegalStateException",
+    "boolean edge(int, int, boolean) throws IndexOutOfBoundsException",
+    "int setPriority(int, int) throws IndexOutOfBoundsException, IllegalArgumentException",
+    "int clearGame()",
+    "int winner(int) throws IndexOutOfBoundsException, IllegalStateException",
+    "int winnerAnew(int) throws IndexOutOfBoundsException, IllegalStateException",
+    "int won(int) throws IllegalArgumentException, IllegalStateException",
+    "int move(int) throws IndexOutOfBoundsException, IllegalStateException, NoSuchElementException",
+    "int lasting(int) throws IndexOutOfBoundsException, IllegalStateException",
+    "long sum() throws IllegalStateException",
+    "float wonShare() throws ArithmeticException, IllegalStateException",
+    "double meanSize() throws ArithmeticException",
+    "boolean isTrue()",
   };
 
   public static void main(String[] args) {
@@ -24,7 +55,13 @@ public final class ParityforgeFace {
       if (!Modifier.isPrivate(m.getModifiers()) && !m.isSynthetic()) {
         StringBuilder text = new StringBuilder(m.getReturnType() + " " + m.getName() + "(");
         for (Class<?> c : m.getParameterTypes()) text.append(text.charAt(text.length() - 1) == '(' ? "" : ", ").append(c);
-        got.add(text + ")");
+        text.append(')');
+        String before = " throws ";
+        for (Class<?> c : m.getExceptionTypes()) {
+          text.append(before).append(c.getSimpleName());
+          before = ", ";
+        }
+        got.add(text.toString());
       }
     }
     for (Field f : Parityforge.class.getDeclaredFields()) {

@@ -34,7 +34,14 @@ public final class ParityforgeLargest extends ParityforgePromises {
     "2 2 - FFRXd&dd,RGc>d!Xd,RFdXXXXc,RFaXXXFd ? - - -",
     "2 2 - FFRXdWdd,RGc>d!Xd,RFaXXXXc,RFaXXXFd ? - - -",
     "1 2 UFdXGXXa,RXFXXcFa,GWcXXXXa GUcXXXXa,GUcXXXXa,GU>aGaXa,GUGXGda ? - - ?",
-    "1 2 UFdXGXXa,RXFXXcFa,GWcXXXXa GUcXXXXa,GUcXXXXa,GU>aGaXa,GUGFda ? - - ?"
+    "1 2 UFdXGXXa,RXFXXcFa,GWcXXXXa GUcXXXXa,GUcXXXXa,GU>aGaXa,GUGFda ? - - ?",
+    "2 2 WfUGdGXb G|XXXXad,RUbXXbXb,WFWcXXac,UWFaXbXc ? - - -",
+    "2 2 - FRcX!XXc,RaFWcXXa,WUFdXaXd,RFaXXXXd ? - - -",
+    // What is left to do when the rows of a search grow must be done later on.
+    "1 1 - XWGFGcFa,UWacXXXa,WFGa!XGc,RRcXFcXc e 0000 1 -",
+    "2 1 XURbFXcb,FX&FcXXb RUcRaXcc,Ra>tXXXa,RXRbXFcb c 00000000 - -",
+    "2 1 Ub&XXbGb,WG&btXXc,XW!cXXXc RaUc!XXa,UXcRUbab,WGcX&Xbc,UcXRcXXa e 2020 0 ?",
+    "2 2 - W|cfXXXc,RGdRFXcd,UdRdX!Xd e 00000000 12 -"
   };
 
   final Parityforge p;
