@@ -41,7 +41,9 @@ public final class ParityforgeLargest extends ParityforgePromises {
     "1 1 - XWGFGcFa,UWacXXXa,WFGa!XGc,RRcXFcXc e 0000 1 -",
     "2 1 XURbFXcb,FX&FcXXb RUcRaXcc,Ra>tXXXa,RXRbXFcb c 00000000 - -",
     "2 1 Ub&XXbGb,WG&btXXc,XW!cXXXc RaUc!XXa,UXcRUbab,WGcX&Xbc,UcXRcXXa e 2020 0 ?",
-    "2 2 - W|cfXXXc,RGdRFXcd,UdRdX!Xd e 00000000 12 -"
+    "2 2 - W|cfXXXc,RGdRFXcd,UdRdX!Xd e 00000000 12 -",
+    "2 1 FRF!aXXc,Wb!XXX!b,WWFcXGcc RbF!UXbb,RaXWaXXa c 00000000 - c",
+    "2 2 WFGaXRbb,WUtRFcba RXaRFbFc,UFcWXXdd,RbRXXb!d e 10101010 12 -"
   };
 
   final Parityforge p;
